@@ -7,7 +7,7 @@ public final class LoanHouse {
 
     private static final int BRANCHES = 4, TITLES = 6, READERS = 10, NEEDS = 4, WEEK = 7;
     private static final int MOST_COPIES = 16, MOST_HOLDS = 12, MOST_OUT = 3, MOST_PAST = 8, IMAGES = 2;
-    private static final int MOST_DAYS = 30, LAST_DAY = 9999, MOST_LOTS = 20, MOST_SEED = 999999;
+    private static final int MOST_DAYS = 30, LAST_DAY = 9999, MOST_LOTS = 20, KINDS_OF_LOTS = 4, MOST_SEED = 999999;
 
     /** What a copy is, as copyOf() and lose() tell it. */
     private static final int IN = 0, OUT = 1, KEPT = 2, ON_ITS_WAY = 3, LOST = 4;
@@ -130,7 +130,7 @@ public final class LoanHouse {
         remember();
         lots.begin(seed);
         for (int lot = 0; lot < n; lot++) {
-            switch (lots.below(4)) {
+            switch (lots.below(KINDS_OF_LOTS)) {
                 case 0: drawHold(); break;
                 case 1: drawLending(); break;
                 case 2: drawGivingBack(); break;
@@ -619,7 +619,7 @@ public final class LoanHouse {
             }
         }
 
-        void getCopy(int slot, int copy) {
+        void putCopy(int slot, int copy) {
             if (isBelow(slot, count)) {
                 grid.put(slot, COPY, copy);
             }
@@ -749,7 +749,7 @@ public final class LoanHouse {
         }
 
         boolean isClosed(int day) {
-            return (closed >> Math.floorMod(day, WEEK) & 1) == 1;
+            return ((closed >> Math.floorMod(day, WEEK)) & 1) == 1;
         }
 
         int dueFromNow() {
@@ -816,7 +816,7 @@ public final class LoanHouse {
         int loseCopy(int copy) {
             int was = copies.state(copy);
             if (was == KEPT || was == ON_ITS_WAY) {
-                holds.getCopy(holds.slotOf(copies.whose(copy)), NONE);
+                holds.putCopy(holds.slotOf(copies.whose(copy)), NONE);
             }
             copies.write(copy, copies.branch(copy), LOST, NONE, NONE);
             serve();
@@ -877,12 +877,12 @@ public final class LoanHouse {
             int from = copies.branch(copy);
             int to = holds.branch(slot);
             int hold = holds.number(slot);
-            holds.getCopy(slot, copy);
+            holds.putCopy(slot, copy);
             if (from == to) {
                 copies.write(copy, to, KEPT, hold, calendar.lastOfPatience());
             } else {
                 copies.write(copy, to, ON_ITS_WAY, hold, calendar.now + way(from, to));
-                trips |= 1 << from * BRANCHES + to;
+                trips |= 1 << (from * BRANCHES + to);
             }
         }
 

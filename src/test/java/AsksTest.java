@@ -300,6 +300,14 @@ public final class AsksTest {
             titleOf 4 2 = 0
             titleOf 4 4 = 0
             """);
+        Script.run("promise 16, the row of one", """
+            hold 0 0 0 0 = 0
+            titleOf 0 2 = 1
+            titleOf 0 3 = 0
+            giveUp 0 = 0
+            titleOf 0 2 = 0
+            titleOf 0 3 = NONE
+            """);
         Script.run("promise 16, one that is ready waits no longer", """
             hold 0 2 0 0 = 0
             pass 4 = 4
@@ -360,6 +368,15 @@ public final class AsksTest {
             readerOf 8 0 = 8
             readerOf 8 2 = 15
             readerOf 8 3 = 1
+            """);
+        Script.run("promise 13 and 17, the first copy counts, too", """
+            copy 0 0 = 0
+            lend 0 0 = 14
+            pass 16 = 16
+            told 13 = 1
+            readerOf 0 0 = 1
+            readerOf 0 2 = 10
+            readerOf 0 3 = 1
             """);
         Script.run("promise 17, the branch", """
             readerOf 0 4 = 0

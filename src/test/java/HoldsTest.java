@@ -71,6 +71,37 @@ public final class HoldsTest {
             holdOf 11 7 = 5
             holdOf 12 7 = 6
             """);
+        Script.run("promise 7, a full house forgets those that are gone", """
+            hold 0 0 0 0 = 0
+            hold 1 0 0 0 = 1
+            hold 2 0 0 0 = 2
+            hold 3 0 0 0 = 3
+            hold 4 0 0 0 = 4
+            hold 5 0 0 0 = 5
+            hold 6 0 0 0 = 6
+            hold 7 0 0 0 = 7
+            hold 8 0 0 0 = 8
+            hold 9 0 0 0 = 9
+            hold 0 1 0 0 = 10
+            hold 1 1 0 3 = 11
+            giveUp 11 = 11
+            told 10 = 11
+            told 11 = 11
+            holdOf 11 0 = UNKNOWN
+            holdOf 10 7 = 0
+            titleOf 1 2 = 1
+            titleOf 1 3 = 10
+            readerOf 1 1 = 1
+            pass 1 = 1
+            giveUp 10 = 10
+            titleOf 1 2 = 0
+            titleOf 1 3 = NONE
+            titleOf 1 4 = 0
+            copy 1 0 = 0
+            told 5 = 1
+            hold 1 1 0 0 = 12
+            holdOf 12 5 = 2
+            """);
         Script.run("promise 7, the day it was made", """
             pass 9 = 9
             hold 4 3 2 1 = 0

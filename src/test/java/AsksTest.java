@@ -76,12 +76,6 @@ public final class AsksTest {
             pass 1 = 10
             told 14 = 1
             """);
-        Script.run("promise 13, refusals", """
-            told -1 = OUTSIDE
-            told 16 = OUTSIDE
-            told -2147483648 = OUTSIDE
-            told 2147483647 = OUTSIDE
-            """);
     }
 
     private static void ofCopies() {
@@ -141,15 +135,6 @@ public final class AsksTest {
             copyOf 0 5 = 4
             pass 7 = 43
             copyOf 0 5 = 4
-            """);
-        Script.run("promise 14, refusals", """
-            copyOf 0 0 = UNKNOWN
-            copy 0 0 = 0
-            copyOf -1 0 = UNKNOWN
-            copyOf 1 0 = UNKNOWN
-            copyOf 0 -1 = OUTSIDE
-            copyOf 0 6 = OUTSIDE
-            copyOf 1 6 = UNKNOWN
             """);
     }
 
@@ -255,16 +240,6 @@ public final class AsksTest {
             holdOf 1 8 = 14
             holdOf 2 8 = NEVER
             """);
-        Script.run("promise 15, refusals", """
-            holdOf 0 0 = UNKNOWN
-            holdOf -1 0 = UNKNOWN
-            hold 0 0 0 0 = 0
-            holdOf -1 0 = UNKNOWN
-            holdOf 1 0 = UNKNOWN
-            holdOf 0 -1 = OUTSIDE
-            holdOf 0 9 = OUTSIDE
-            holdOf 1 9 = UNKNOWN
-            """);
     }
 
     private static void ofTitles() {
@@ -322,13 +297,6 @@ public final class AsksTest {
             titleOf 2 4 = 1
             lose 0 = 2
             titleOf 2 4 = 5
-            """);
-        Script.run("promise 16, refusals", """
-            titleOf -1 0 = UNKNOWN
-            titleOf 6 0 = UNKNOWN
-            titleOf 0 -1 = OUTSIDE
-            titleOf 0 5 = OUTSIDE
-            titleOf 6 5 = UNKNOWN
             """);
     }
 
@@ -389,13 +357,6 @@ public final class AsksTest {
             hold 5 0 0 0 = 0
             readerOf 0 0 = 0
             readerOf 5 0 = 0
-            """);
-        Script.run("promise 17, refusals", """
-            readerOf -1 0 = UNKNOWN
-            readerOf 10 0 = UNKNOWN
-            readerOf 0 -1 = OUTSIDE
-            readerOf 0 5 = OUTSIDE
-            readerOf 10 5 = UNKNOWN
             """);
     }
 }

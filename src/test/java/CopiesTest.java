@@ -20,21 +20,6 @@ public final class CopiesTest {
             copyOf 1 4 = NONE
             told 4 = 2
             """);
-        Script.run("promise 2, refusals", """
-            copy -1 0 = UNKNOWN
-            copy 6 0 = UNKNOWN
-            copy 0 -1 = UNKNOWN
-            copy 0 4 = UNKNOWN
-            copy 2147483647 -2147483648 = UNKNOWN
-            told 4 = 0
-            told 15 = 0
-            15 * copy 1 2
-            copy 1 2 = 15
-            copy 1 2 = FULL
-            copy 6 2 = UNKNOWN
-            told 4 = 16
-            told 5 = 65535
-            """);
         Script.run("promise 2, a new copy serves the row", """
             hold 3 2 1 0 = 0
             holdOf 0 5 = 0
@@ -90,26 +75,6 @@ public final class CopiesTest {
             lend 0 7 = 14
             told 10 = 0
             readerOf 7 0 = 3
-            """);
-        Script.run("promise 3, refusals", """
-            lend 0 0 = UNKNOWN
-            4 * copy 0 0
-            lend -1 0 = UNKNOWN
-            lend 4 0 = UNKNOWN
-            lend 0 -1 = UNKNOWN
-            lend 0 10 = UNKNOWN
-            told 15 = 4
-            lend 0 9 = 14
-            lend 0 9 = NOT    # it is out
-            lend 0 10 = UNKNOWN
-            lend 1 9 = 14
-            lend 2 9 = 14
-            lend 3 9 = NOT    # three are out to him
-            lend 3 8 = 14
-            lose 3 = 1
-            lend 3 8 = NOT    # it is lost
-            giveBack 0 0 = 0
-            lend 0 9 = 14
             """);
         Script.run("promise 3, one on its way is not lent", """
             copy 0 0 = 0
@@ -174,19 +139,6 @@ public final class CopiesTest {
             copyOf 0 1 = 0
             copyOf 0 4 = 1
             """);
-        Script.run("promise 4, refusals", """
-            giveBack 0 0 = UNKNOWN
-            2 * copy 0 0
-            giveBack -1 0 = UNKNOWN
-            giveBack 2 0 = UNKNOWN
-            giveBack 0 -1 = UNKNOWN
-            giveBack 0 4 = UNKNOWN
-            giveBack 0 0 = NOT      # in
-            hold 0 0 0 0 = 0
-            giveBack 0 0 = NOT      # kept
-            hold 1 0 2 0 = 1
-            giveBack 1 0 = NOT      # on its way
-            """);
     }
 
     private static void renewing() {
@@ -204,28 +156,6 @@ public final class CopiesTest {
             copyOf 0 5 = 3
             renew 0 = 28
             copyOf 0 5 = 0
-            """);
-        Script.run("promise 5, refusals", """
-            renew 0 = UNKNOWN
-            copy 0 0 = 0
-            copy 0 1 = 1
-            copy 1 1 = 2
-            renew -1 = UNKNOWN
-            renew 3 = UNKNOWN
-            renew 0 = NOT           # in
-            lend 0 6 = 14
-            hold 5 0 1 0 = 0        # ready: not in the row
-            renew 1 = NOT           # kept
-            renew 0 = 14
-            hold 4 1 2 0 = 1
-            renew 2 = NOT           # on its way
-            hold 3 1 2 0 = 2        # a row of another title
-            renew 0 = 14
-            hold 3 0 2 0 = 3
-            renew 0 = NOT           # a row of this one
-            giveUp 3 = 3
-            lose 0 = 1
-            renew 0 = NOT           # lost
             """);
     }
 
@@ -278,15 +208,6 @@ public final class CopiesTest {
             holdOf 1 7 = 1
             giveBack 0 0 = 0
             copyOf 0 3 = 0
-            """);
-        Script.run("promise 6, refusals", """
-            lose 0 = UNKNOWN
-            copy 0 0 = 0
-            lose -1 = UNKNOWN
-            lose 1 = UNKNOWN
-            lose 0 = 0
-            lose 0 = NOT
-            told 15 = 2
             """);
     }
 }

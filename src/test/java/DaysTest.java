@@ -85,20 +85,6 @@ public final class DaysTest {
             set 2 0 = 0
             told 15 = 7
             """);
-        Script.run("promise 10, refusals", """
-            set -1 1 = OUTSIDE
-            set 3 1 = OUTSIDE
-            set 0 0 = OUTSIDE
-            set 0 61 = OUTSIDE
-            set 1 0 = OUTSIDE
-            set 1 21 = OUTSIDE
-            set 2 -1 = OUTSIDE
-            set 2 128 = OUTSIDE
-            told 1 = 14
-            told 2 = 3
-            told 3 = 64
-            told 15 = 0
-            """);
         Script.run("promise 10, days given before stay", """
             copy 0 0 = 0
             copy 1 0 = 1
@@ -148,16 +134,6 @@ public final class DaysTest {
             copyOf 0 1 = 0
             undo = 1
             told 0 = 0
-            """);
-        Script.run("promise 11, refusals", """
-            drift 0 1 = OUTSIDE
-            drift 21 1 = OUTSIDE
-            drift 1 0 = OUTSIDE
-            drift 1 1000000 = OUTSIDE
-            drift -1 -1 = OUTSIDE
-            told 15 = 0
-            drift 20 999999 = 5
-            told 15 = 1
             """);
         Script.run("promise 11, only pass() has a last day", """
             333 * pass 30

@@ -17,29 +17,6 @@ public final class HoldsTest {
             holdOf 0 0 = UNKNOWN
             holdOf 2 1 = 1
             """);
-        Script.run("promise 7, refusals", """
-            hold -1 0 0 0 = UNKNOWN
-            hold 10 0 0 0 = UNKNOWN
-            hold 0 -1 0 0 = UNKNOWN
-            hold 0 6 0 0 = UNKNOWN
-            hold 0 0 -1 0 = UNKNOWN
-            hold 0 0 4 0 = UNKNOWN
-            hold 0 0 0 -1 = OUTSIDE
-            hold 0 0 0 4 = OUTSIDE
-            hold 10 0 0 4 = UNKNOWN
-            hold 9 5 3 3 = 0
-            hold 9 5 0 0 = NOT        # he has one that waits
-            hold 9 5 0 4 = OUTSIDE
-            copy 5 3 = 0
-            hold 9 5 0 0 = NOT        # he has one that is ready
-            lend 0 9 = 14
-            hold 9 5 0 0 = NOT        # he has a copy of it out
-            hold 9 4 0 0 = 1
-            hold 8 5 0 0 = 2
-            lose 0 = 1
-            hold 9 5 0 0 = 3          # what is lost is not out
-            told 10 = 3
-            """);
         Script.run("promise 7, one on the way is one", """
             copy 0 0 = 0
             hold 1 0 2 0 = 0
@@ -219,16 +196,6 @@ public final class HoldsTest {
             giveUp 1 = 0
             copyOf 0 2 = 0
             copyOf 0 1 = 3
-            """);
-        Script.run("promise 8, refusals", """
-            giveUp 0 = UNKNOWN
-            giveUp -1 = UNKNOWN
-            hold 0 0 0 0 = 0
-            giveUp 1 = UNKNOWN
-            giveUp -1 = UNKNOWN
-            giveUp 0 = 0
-            giveUp 0 = UNKNOWN
-            told 15 = 2
             """);
     }
 }

@@ -20,14 +20,6 @@ public final class ImagesTest {
             pass 5 = 8
             goBack 0 = 3
             """);
-        Script.run("promise 18, refusals", """
-            pass 1 = 1
-            keep -1 = UNKNOWN
-            keep 2 = UNKNOWN
-            told 15 = 1
-            goBack 0 = NOT
-            goBack 1 = NOT
-            """);
         Script.run("promise 19, all comes back", """
             copy 0 0 = 0
             copy 1 1 = 1
@@ -94,17 +86,6 @@ public final class ImagesTest {
             told 15 = 0
             undo = NOT
             told 0 = 0
-            """);
-        Script.run("promise 19, refusals", """
-            pass 1 = 1
-            goBack -1 = UNKNOWN
-            goBack 2 = UNKNOWN
-            goBack 0 = NOT
-            goBack 1 = NOT
-            told 15 = 1
-            keep 0 = 1
-            goBack 1 = NOT
-            goBack 0 = 1
             """);
         Script.end();
     }

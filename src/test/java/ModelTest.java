@@ -2,7 +2,7 @@ import java.util.Random;
 
 /** Long runs of drawn calls, wrong ones too, on the program and on the plain model: each answer must be the same. */
 public final class ModelTest {
-    private static final int RUNS = 400, CALLS = 512;
+    private static final int RUNS = 400, CALLS = 512, LONG_RUNS = 4, LONG_CALLS = 50000;
     private static final String[] CALL = {"copy", "lend", "giveBack", "renew", "lose", "hold", "giveUp", "pass", "set", "drift",
         "undo", "told", "copyOf", "holdOf", "titleOf", "readerOf", "keep", "goBack"};
 
@@ -15,7 +15,25 @@ public final class ModelTest {
         for (int run = 0; run < RUNS; run++) {
             runOne(run);
         }
+        for (int run = 0; run < LONG_RUNS; run++) {
+            runLong(run);
+        }
         Script.end();
+    }
+
+    /** What an object answers behind its 512th call is free, but rule 7 lets no call throw there either. */
+    private static void runLong(int run) {
+        Random draw = new Random(-1 - run);
+        LoanHouse house = new LoanHouse();
+        int holds = 0;
+        int ended = 0;
+        for (int call = 0; call < LONG_CALLS; call++) {
+            int what = drawCall(draw, OFTEN[run % OFTEN.length]);
+            int got = call(house, what, drawNumbers(draw, what, holds));
+            holds = what == 5 && got >= 0 ? got : holds;
+            ended++;
+        }
+        Script.due("long run " + run + ": calls that ended", ended, LONG_CALLS);
     }
 
     private static void runOne(int run) {

@@ -32,13 +32,13 @@ final class Script {
         if (row.contains("*")) {
             String[] parts = row.split("\\*");
             for (int i = 0; i < Integer.parseInt(parts[0].trim()); i++) {
-                call(house, parts[1].trim());
+                answer(name, house, parts[1].trim());
             }
             return;
         }
         String[] parts = row.split("=");
         String want = parts[1].trim();
-        due(name + ": " + parts[0].trim(), call(house, parts[0].trim()), NAMES.containsKey(want) ? NAMES.get(want) : Integer.parseInt(want));
+        due(name + ": " + parts[0].trim(), answer(name, house, parts[0].trim()), NAMES.containsKey(want) ? NAMES.get(want) : Integer.parseInt(want));
     }
 
     static void due(String what, long got, long want) {
@@ -54,6 +54,16 @@ final class Script {
         System.out.println(looks + " answers, " + wrong + " wrong");
         if (wrong != 0 || looks == 0) {
             System.exit(1);
+        }
+    }
+
+    /** No call may ever throw: one that does is told with its row, and the other rows still run. */
+    private static int answer(String name, LoanHouse house, String row) {
+        try {
+            return call(house, row);
+        } catch (RuntimeException thrown) {
+            due(name + ": " + row + " threw " + thrown, 0, 1);
+            return Integer.MIN_VALUE;
         }
     }
 

@@ -377,6 +377,16 @@ final class SentencesOfCopies {
             lose 1 = 3
             holdOf 0 5 = 0
             """);
+        Sentences.says(6, "a HOLD for which it was WAITS again", "not one that bears its READER's number", """
+            copy 0 0 = 0
+            copy 1 0 = 1
+            hold 5 1 0 0 = 0
+            lend 0 0 = 14
+            lose 0 = 1
+            holdOf 0 5 = 2
+            holdOf 0 6 = 1
+            copyOf 1 2 = 2
+            """);
         Sentences.says(6, "UNKNOWN", "a COPY that there is not", """
             lose 0 = UNKNOWN
             copy 0 0 = 0

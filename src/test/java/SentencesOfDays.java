@@ -186,6 +186,13 @@ final class SentencesOfDays {
             undo = 0
             told 0 = 0
             """);
+        Sentences.says(12, "The latest is undone", "the number of a HOLD, too", """
+            hold 0 0 0 0 = 0
+            hold 1 0 0 0 = 1
+            undo = 1
+            holdOf 1 0 = UNKNOWN
+            hold 2 0 0 0 = 1
+            """);
         Sentences.says(12, "how many more can be", "eight, again and again", """
             20 * pass 1
             undo = 7

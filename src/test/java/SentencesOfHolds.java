@@ -1,6 +1,7 @@
 /** Promises 7 and 8: hold, giveUp. */
 final class SentencesOfHolds {
-    private static final String TWELVE = """
+    /** As many as there can be, all in THE ROW. */
+    static final String TWELVE = """
         hold 0 0 0 0 = 0
         hold 1 0 0 0 = 1
         hold 2 0 0 0 = 2

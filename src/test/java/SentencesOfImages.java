@@ -78,6 +78,15 @@ final class SentencesOfImages {
             goBack 1 = 30
             told 0 = 30
             """);
+        Sentences.says(19, "What is so becomes IMAGE i", "the number of the next HOLD, too", """
+            hold 0 0 0 0 = 0
+            keep 0 = 0
+            hold 1 0 0 0 = 1
+            hold 2 0 0 0 = 2
+            goBack 0 = 0
+            holdOf 1 0 = UNKNOWN
+            hold 3 0 0 0 = 1
+            """);
         Sentences.says(19, "UNKNOWN", """
             keep 0 = 0
             keep 1 = 0

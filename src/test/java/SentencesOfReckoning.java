@@ -256,19 +256,7 @@ final class SentencesOfReckoning {
             holdOf 1 1 = 0
             holdOf 1 2 = 2
             """);
-        Sentences.says(11, "What is refused does not come.)", "hold where 12 are", """
-            hold 0 1 0 0 = 0
-            hold 1 1 0 0 = 1
-            hold 2 1 0 0 = 2
-            hold 3 1 0 0 = 3
-            hold 4 1 0 0 = 4
-            hold 5 1 0 0 = 5
-            hold 6 1 0 0 = 6
-            hold 7 1 0 0 = 7
-            hold 8 1 0 0 = 8
-            hold 9 1 0 0 = 9
-            hold 0 2 0 0 = 10
-            hold 1 2 0 0 = 11
+        Sentences.says(11, "What is refused does not come.)", "hold where 12 are", SentencesOfHolds.TWELVE + """
             drift 1 4 = 0
             told 10 = 12
             titleOf 5 2 = 0

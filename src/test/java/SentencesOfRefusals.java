@@ -97,22 +97,24 @@ final class SentencesOfRefusals {
         refused(19, "", "goBack 0 = NOT", "goBack 1 = NOT", "goBack 2 = UNKNOWN");
     }
 
-    /** Now, after each number of undoings, and after going back: all is as in a twin that was never asked for it. */
     private static void refused(int promise, String before, String... rows) {
         String name = Sentences.says(promise, CHANGES_NOTHING);
         for (String row : rows) {
-            Look.same(name + " " + row, after(name, before + "\n" + row), after(name, before));
+            sameAsTwin(name + " " + row, before, row, "");
             for (int undone = 1; undone <= 9; undone++) {
-                String then = "\n" + undone + " * undo";
-                Look.same(name + " " + row + then, after(name, before + "\n" + row + then), after(name, before + then));
+                sameAsTwin(name + " " + row, before, row, undone + " * undo");
             }
-            for (int image = 0; image < 2; image++) {
-                String then = "\n1 * goBack " + image;
-                Look.same(name + " " + row + then, after(name, before + "\n" + row + then), after(name, before + then));
-            }
-            String then = "\n1 * hold 2 2 2 2\n1 * copy 2 2";
-            Look.same(name + " " + row + then, after(name, before + "\n" + row + then), after(name, before + then));
+            sameAsTwin(name + " " + row, before, row, "1 * goBack 0");
+            sameAsTwin(name + " " + row, before, row, "1 * goBack 1");
+            sameAsTwin(name + " " + row, before, row, "1 * copy 2 2");
+            sameAsTwin(name + " " + row, before, row, "1 * giveUp 0\n 1 * hold 2 2 2 2");
         }
+    }
+
+    /** Whatever comes then, all is as in a twin that was never asked for what is refused. */
+    private static void sameAsTwin(String name, String before, String row, String then) {
+        List<String> got = after(name, before + "\n" + row + "\n" + then);
+        Look.same(name + ", then " + then.replace("\n", ";"), got, after(name, before + "\n" + then));
     }
 
     private static List<String> after(String name, String rows) {

@@ -305,6 +305,15 @@ final class SentencesOfRows {
             lend 1 7 = 14
             copyOf 1 3 = 7
             """);
+        Sentences.says(3, "a COPY that is KEPT for a HOLD of his (the HOLD is gone then), or that is IN", "with one that is IN his HOLD for another stays", """
+            copy 0 0 = 0
+            copy 0 1 = 1
+            hold 6 0 0 0 = 0
+            lend 1 6 = 14
+            holdOf 0 5 = 2
+            lend 0 6 = 14
+            told 10 = 0
+            """);
         Sentences.says(3, "DUE is the OPEN DAY from NOW and TERM on.", """
             copy 0 0 = 0
             copy 0 0 = 1

@@ -68,19 +68,7 @@ final class SentencesOfTerms {
     }
 
     private static void orderOfRefusals() {
-        Sentences.says(7, "REFUSALS, of several the first in this order: UNKNOWN (a BRANCH, TITLE, COPY, READER, HOLD, IMAGE that there is not), OUTSIDE (another number out of its bounds), NOT (not now, as told), FULL.", """
-            hold 0 0 0 0 = 0
-            hold 1 0 0 0 = 1
-            hold 2 0 0 0 = 2
-            hold 3 0 0 0 = 3
-            hold 4 0 0 0 = 4
-            hold 5 0 0 0 = 5
-            hold 6 0 0 0 = 6
-            hold 7 0 0 0 = 7
-            hold 8 0 0 0 = 8
-            hold 9 0 0 0 = 9
-            hold 0 1 0 0 = 10
-            hold 1 1 0 0 = 11
+        Sentences.says(7, "REFUSALS, of several the first in this order: UNKNOWN (a BRANCH, TITLE, COPY, READER, HOLD, IMAGE that there is not), OUTSIDE (another number out of its bounds), NOT (not now, as told), FULL.", SentencesOfHolds.TWELVE + """
             hold 10 0 0 4 = UNKNOWN   # OUTSIDE and FULL, too
             hold 0 6 0 4 = UNKNOWN
             hold 0 0 4 4 = UNKNOWN    # OUTSIDE, NOT and FULL, too

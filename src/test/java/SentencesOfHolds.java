@@ -163,6 +163,23 @@ final class SentencesOfHolds {
             copyOf 0 4 = NONE
             holdOf 0 0 = UNKNOWN
             """);
+        Sentences.says(8, "A HOLD is given up", "the last of twelve leaves nothing behind", TWELVE + """
+            giveUp 11 = 11
+            hold 2 2 0 3 = 12
+            pass 5 = 5
+            giveUp 12 = 11
+            titleOf 2 2 = 0
+            titleOf 2 3 = NONE
+            titleOf 2 4 = 0
+            readerOf 2 1 = 1
+            copy 2 0 = 0
+            told 5 = 1
+            hold 1 1 0 3 = 13
+            giveUp 13 = 11
+            titleOf 1 3 = 10
+            holdOf 10 7 = 0
+            told 11 = 11
+            """);
         Sentences.says(8, "one ON ITS WAY is IN where it goes to, at once", """
             copy 0 0 = 0
             hold 0 0 2 0 = 0

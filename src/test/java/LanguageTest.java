@@ -224,6 +224,54 @@ public final class LanguageTest {
             return false;
         }
 
+        @Override public Void visitArrayAccess(ArrayAccessTree tree, Void v) {
+            String conditions = conditionsAround();
+            new TreePathScanner<Void, Void>() {
+                @Override public Void visitIdentifier(IdentifierTree name, Void w) {
+                    Element element = trees.getElement(getCurrentPath());
+                    boolean isFixed = element.getKind() == ElementKind.FIELD && element.getModifiers().contains(Modifier.FINAL);
+                    rule(7, name + " was looked at ahead of the index at " + where(tree), isFixed || conditions.matches("(?s).*\\b" + name + "\\b.*"));
+                    return super.visitIdentifier(name, w);
+                }
+            }.scan(new TreePath(getCurrentPath(), tree.getIndex()), null);
+            return super.visitArrayAccess(tree, v);
+        }
+
+        /** What the method around this place asks ahead of it: in an if that leaves the method, or in one that holds this place. */
+        private String conditionsAround() {
+            StringBuilder conditions = new StringBuilder();
+            long here = trees.getSourcePositions().getStartPosition(unit, getCurrentPath().getLeaf());
+            TreePath method = getCurrentPath();
+            while (method.getLeaf().getKind() != Tree.Kind.METHOD && method.getParentPath() != null) {
+                Tree leaf = method.getLeaf();
+                if (leaf instanceof IfTree choice) {
+                    conditions.append(choice.getCondition()).append('\n');
+                } else if (leaf instanceof ConditionalExpressionTree choice) {
+                    conditions.append(choice.getCondition()).append('\n');
+                } else if (leaf instanceof BinaryTree both && both.getKind() == Tree.Kind.CONDITIONAL_AND) {
+                    conditions.append(both.getLeftOperand()).append('\n');
+                }
+                method = method.getParentPath();
+            }
+            new TreePathScanner<Void, Void>() {
+                @Override public Void visitIf(IfTree choice, Void w) {
+                    boolean isAhead = trees.getSourcePositions().getEndPosition(unit, choice) < here;
+                    if (isAhead && choice.getThenStatement().toString().contains("return")) {
+                        conditions.append(choice.getCondition()).append('\n');
+                    }
+                    return super.visitIf(choice, w);
+                }
+            }.scan(method, null);
+            return conditions.toString();
+        }
+
+        @Override public Void visitNewArray(NewArrayTree tree, Void v) {
+            for (ExpressionTree length : tree.getDimensions()) {
+                rule(7, "the length at " + where(tree) + " is not below 0", isConstant(length) || length.toString().matches("Math\\.max\\(.*, 0\\)"));
+            }
+            return super.visitNewArray(tree, v);
+        }
+
         @Override public Void visitLambdaExpression(LambdaExpressionTree tree, Void v) {
             never(2, "a lambda", tree);
             return super.visitLambdaExpression(tree, v);
